@@ -951,17 +951,17 @@ public final class HandShakes {
                     return k == 0 ? noneAt(start) : made;
                 }
                 nextToken();
-                int kind = wordHere();
-                if (kind != LOT && kind != KEY || draft.words[line] >= MOST_WORDS) {
+                boolean byLot = isWord("lot");
+                if (!byLot && !isWord("key") || draft.words[line] >= MOST_WORDS) {
                     return noneAt(start);
                 }
                 draft.words[line]++;
                 nextToken();
-                int number = readNumber(kind == LOT ? LOTS - 1 : 1);
+                int number = readNumber(byLot ? LOTS - 1 : 1);
                 if (number == NONE) {
                     return NONE;
                 }
-                made = draft.node(RAISE, made, kind == LOT ? ATOM_LOT + number : number);
+                made = draft.node(RAISE, made, byLot ? ATOM_LOT + number : number);
             }
             return noneAt(start);
         }
@@ -1684,6 +1684,13 @@ public final class HandShakes {
         private void listTakes(int state) {
             states.load(state, play);
             takeCount = 0;
+            boolean any = false;
+            for (int end = 0; end < 2 * rooms; end++) {
+                any = play.actOf(end) == TAKE || any;
+            }
+            if (!any) {
+                return;
+            }
             listCandidates();
             hear();
             // What was sent stays, as STATES hold parts of it; what comes behind it is forgotten again.

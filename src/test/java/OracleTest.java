@@ -153,6 +153,14 @@ public final class OracleTest {
                 "a send seal(raise(g,lot 0),key 1);b take seal(x 0,key 1);b send seal(raise(g,lot 0),key 1);"
                         + "a take seal(x 0,key 1);a sure raise(x 0,lot 0);b sure raise(x 0,lot 0)",
                 "a take x 0;b take x 0;a show x 0;b show x 0;a sure x 0;b sure lot 1",
+                "a take x 0;a send pair(pair(x 0,x 0),pair(x 0,lot 0));b take x 0;b send pair(pair(x 0,lot 1),pair(x 0,x 0));"
+                        + "a take x 1;a show pair(x 1,x 1);b show pair(x 0,x 0);a sure lot 2;b sure lot 2;b send lot 2",
+                "a take x 0;a send raise(x 0,lot 0,lot 1,key 0,lot 0,lot 2);b take x 0;b send raise(x 0,key 1,lot 0,lot 0,key 0,lot 1);"
+                        + "a take x 1;a send raise(x 1,lot 2,lot 1,lot 0,lot 0,key 0);a sure raise(x 1,key 1);b sure raise(x 0,key 1)",
+                "a send pair(lot 0,pair(lot 1,lot 0));a send pair(lot 0,pair(pair(lot 1,lot 2),pair(g,key 0)));"
+                        + "b take pair(x 0,x 1);b send pair(pair(x 0,x 1),pair(x 1,pair(x 1,x 0)));"
+                        + "a take pair(x 0,x 1);a send pair(pair(x 1,x 0),pair(x 0,pair(x 1,x 0)));b take x 2;b send pair(x 2,x 2);"
+                        + "b sure pair(x 2,x 2);a take x 2;a sure pair(x 2,lot 0)",
                 "a send pair(lot 0,pair(lot 1,seal(lot 2,key 0)));b take pair(x 0,pair(x 1,x 0));a take x 3;a send x 3;"
                         + "b send pair(x 0,x 1);b take seal(x 2,key 0);b sure x 2");
         String[][] changes = {{"key 0", "key 1"}, {"key 1", "x 0"}, {"lot 0", "lot 1"}, {"name 0", "lot 2"}, {"sum(", "seal(key 0,"},
