@@ -1143,7 +1143,7 @@ public final class HandShakes {
         }
 
         /** RAISE of a TERM by one more ATOM, put where the order of ATOMS asks for it. */
-        int raise(int term, int atom, int depth) {
+        private int raise(int term, int atom, int depth) {
             if (term < 0 || term >= count || depth > MOST_SIZE) {
                 return NONE;
             }
@@ -1239,7 +1239,7 @@ public final class HandShakes {
         }
 
         /** Whether a TERM can be MADE. */
-        boolean can(int term, int depth) {
+        private boolean can(int term, int depth) {
             if (term < 0 || term >= terms.count || depth > MOST_SIZE) {
                 return false;
             }
@@ -1387,7 +1387,7 @@ public final class HandShakes {
             return instance(one, one.root[0], 0, 0);
         }
 
-        int instance(Script of, int node, int end, int depth) {
+        private int instance(Script of, int node, int end, int depth) {
             if (of == null || node < 0 || node >= of.nodes || end < 0 || end >= ENDS || depth > MOST_DEPTH) {
                 return NONE;
             }
