@@ -177,6 +177,7 @@ public final class PromiseTest {
         refusedAt("a send raise(g,name 0)", 15);
         refusedAt("a send raise(g,lot 0,)", 21);
         refusedAt("a send raise(g,key 2)", 19);
+        refusedAt("a send raise(g,lot 3)", 19);
         refusedAt("a send g\n", 8);
         refusedAt("a send g;", 9);
         refusedAt("a send g;;", 9);
@@ -385,6 +386,11 @@ public final class PromiseTest {
                         + "a send pair(sum(sum(sum(g))),pair(seal(g,name 0),pair(seal(name 0,g),sum(seal(g,name 0)))));a take x 0");
         due("prove(two x)", x.prove(0, 1, 0), 0);
         due("found(0)", x.found(0), 37);
+        HandShakes two = with(12, "a take pair(x 3,x 1);a sure x 3");
+        due("prove(sure of the other x)", two.prove(0, 1, 0), 1);
+        due("found(0)", two.found(0), 2);
+        due("course(0, 1)", two.course(0, 1), 0);
+        due("course(0, 2)", two.course(0, 2), 0);
         due("prove(two x on both sides)", x.prove(1, 1, 0), 2);
         due("found(0)", x.found(0), 400);
         due("prove(two x in two rooms)", x.prove(0, 2, 0), 2);
@@ -416,6 +422,10 @@ public final class PromiseTest {
         due("prove: a sure of 31 ahead of a send that tells all", x.prove(3, 1, 0), 0);
         due("prove: the lot of another END", x.prove(4, 1, 0), 0);
         due("found(0)", x.found(0), 1);
+        x = with(12, "a send seal(" + fifteen + ",key 0);b take seal(x 0,key 0);b sure g;b send pair(x 0,x 0)");
+        due("prove: SURE, then a send of 31", x.prove(0, 1, 0), 1);
+        due("last(0, 1, 0)", x.last(0, 1, 0), 2);
+        due("last(0, 1, 1)", x.last(0, 1, 1), 1);
         // A take of 31 is not taken, but the END does not STOP at it.
         x = with(12, "a send pair(" + fourteen + ",name 1);b take pair(x 0,name 1);b take pair(x 0,sum(sum(x 0)));b sure g;a take x 0;a sure g",
                 "b take x 0;b take pair(x 0,x 0);b sure g");
@@ -438,6 +448,14 @@ public final class PromiseTest {
         due("prove(an opener)", x.prove(0, 1, 0), 1);
         due("found(2)", x.found(2), 1);
         due("prove(a sender) in one room", x.prove(1, 1, 0), 0);
+        for (int lot = 0; lot < 3; lot++) {
+            for (String column : new String[] {"a", "b"}) {
+                HandShakes own = with(12, column + " sure lot " + lot, column + " sure key 1", column + " sure name 1");
+                due("prove(sure of a lot) in two rooms", own.prove(0, 2, 0), 0);
+                due("prove(sure of a key) in two rooms", own.prove(1, 2, 0), 0);
+                due("prove(sure of a name) in two rooms", own.prove(2, 2, 0), 1);
+            }
+        }
         due("prove(a sender) in two rooms", x.prove(1, 2, 0), 1);
         due("found(1)", x.found(1), 1);
         due("found(2)", x.found(2), -1);
@@ -460,6 +478,10 @@ public final class PromiseTest {
         due("weakest(two shows)", x.weakest(3), 2);
         due("weakest(never)", x.weakest(4), 4);
         due("weakest(spent)", x.weakest(5), 0);
+        String shows = times(3, "a show lot 0;b show lot 0", ";");
+        HandShakes three = with(13, shows + ";a sure g", shows + ";a show lot 1;b show lot 1;a sure g");
+        due("weakest(three shows)", three.weakest(0), 3);
+        due("weakest(four shows)", three.weakest(1), 4);
         due("weakest(6)", x.weakest(6), -1);
         due("weakest(-1)", x.weakest(-1), -1);
         due("found(0): the latest stays", x.found(0), 1);
@@ -650,6 +672,10 @@ public final class PromiseTest {
         due("fill: a hole twice", x.fill(3), 2);
         due("filled(0)", x.filled(0), 3);
         due("filled(1)", x.filled(1), 3);
+        x = with(18, "a sure hole 0;b send hole 1");
+        Tape.shelf(x, "lot 1");
+        due("fill: two holes, one on the shelf", x.fill(0), 2);
+        due("filled(1)", x.filled(1), 0);
         x = with(18, "a sure hole 0;b send g");
         Tape.shelf(x, "g");
         Tape.shelf(x, "name 1");
@@ -753,6 +779,8 @@ public final class PromiseTest {
         due("sure(-1)", x.sure(-1, -1, 0, 0), -1);
         due("sure(20)", x.sure(20, 20, 0, 0), -1);
         due("sure(0, 20)", x.sure(0, 20, 0, 0), -1);
+        due("sure(32, 0)", x.sure(32, 0, 0, 0), -1);
+        due("sure(0, 32)", x.sure(0, 32, 0, 0), -1);
         due("sure(day -1)", x.sure(0, 0, -1, 0), -1);
         due("sure(day 400)", x.sure(0, 1, 400, 0), -1);
         due("sure(known -1)", x.sure(0, 1, 0, -1), -1);
@@ -836,6 +864,11 @@ public final class PromiseTest {
         for (int i = 2; i <= 30; i++) {
             due("time " + i, i % 2 == 0 ? x.come(1) : x.go(1), i);
         }
+        due("group(30, 0)", x.group(30, 0), 3);
+        due("group(30, 1)", x.group(30, 1), 3);
+        x.image(0);
+        x.restore(0);
+        due("group(30, 1)", x.group(30, 1), 3);
         due("go(1) behind 30", x.go(1), -5);
         due("come(1) behind 30", x.come(1), -3);
     }
