@@ -1919,8 +1919,6 @@ public final class HandShakes {
         private final int[] sort = new int[MOST_EVENTS];
         private int events;
         private boolean tooMany;
-        /** The FREE x of the LINE that have not been put yet. */
-        private int unbound;
 
         Runs(Play ends) {
             play = ends;
@@ -2018,7 +2016,6 @@ public final class HandShakes {
                 return false;
             }
             int term = act == TAKE ? nextLying(end) : play.termOf(line, end);
-            unbound = play.script.free[line];
             if (term == NONE || act == TAKE && !fits(play.script.root[line], term, end, 0)) {
                 play.stopped[end] = 1;
                 return false;
@@ -2063,8 +2060,8 @@ public final class HandShakes {
             }
             int kind = script.kind[node];
             int first = script.left[node];
-            if (kind == X && first >= 0 && first < XS && (unbound >> first & 1) != 0) {
-                unbound &= ~(1 << first);
+            // What was not taken yet is FREE: no other x can be in a take.
+            if (kind == X && first >= 0 && first < XS && play.took[XS * end + first] == NONE) {
                 play.took[XS * end + first] = term;
                 return true;
             }
@@ -2073,28 +2070,8 @@ public final class HandShakes {
                         && fits(first, play.terms.left[term], end, depth + 1)
                         && fits(script.right[node], play.terms.right[term], end, depth + 1);
             }
-            // Nothing stands in the place of an x under a SUM or a RAISE: it is not put yet, so there is no TERM.
-            return !hasUnbound(node, 0) && play.instance(script, node, end, 0) == term;
-        }
-
-        private boolean hasUnbound(int node, int depth) {
-            Script script = play.script;
-            if (script == null || node < 0 || node >= script.nodes || depth > MOST_WORDS) {
-                return false;
-            }
-            int first = script.left[node];
-            switch (script.kind[node]) {
-                case X:
-                    return (unbound >> first & 1) != 0;
-                case PAIR:
-                case SEAL:
-                    return hasUnbound(first, depth + 1) || hasUnbound(script.right[node], depth + 1);
-                case SUM:
-                case RAISE:
-                    return hasUnbound(first, depth + 1);
-                default:
-                    return false;
-            }
+            // Under a SUM or a RAISE nothing can be put for an x: without what stands ahead of it there is no TERM.
+            return play.instance(script, node, end, 0) == term;
         }
 
         /** Whether both ENDS were at a show and went on. */
