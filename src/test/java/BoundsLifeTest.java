@@ -615,9 +615,11 @@ public final class BoundsLifeTest {
         x.image(1);
         x.vouch(2, 3, 1, 10, 20);
         x.vouch(3, 4, 0, 10, 20);
-        x.rules(1, 0);
+        x.rules(1, 1);
         x.come(5);
         x.come(6);
+        x.go(5);
+        x.rules(1, 0);
         x.image(0);
         int[][] others = {{7, 3, 1, 10, 20}, {2, 7, 1, 10, 20}, {2, 3, 0, 10, 20}, {2, 3, 1, 11, 20}, {2, 3, 1, 10, 21}, {2, 3, 5, 0, 0}};
         for (int[] other : others) {
@@ -628,17 +630,19 @@ public final class BoundsLifeTest {
             x.rules(0, 1);
             x.come(1);
             x.come(2);
+            x.come(3);
             due("restore(0)", x.restore(0), 0);
             due("sure(2, 4, 10, 20)", x.sure(2, 4, 10, 20), 2);
             due("sure(2, 4, 9, 20)", x.sure(2, 4, 9, 20), -1);
             due("sure(2, 4, 10, 19)", x.sure(2, 4, 10, 19), -1);
             due("group(1, 0)", x.group(1, 0), 32);
             due("group(2, 0)", x.group(2, 0), 96);
-            due("group(2, 1)", x.group(2, 1), 96);
-            due("come(0)", x.come(0), 3);
-            due("go(5)", x.go(5), 4);
-            due("group(3, 1): rule 1 of COMES", x.group(3, 1), 97);
-            due("group(4, 1): rule 0 of GOES", x.group(4, 1), 65);
+            due("group(3, 0)", x.group(3, 0), 64);
+            due("group(3, 1): who went by rule 1", x.group(3, 1), 96);
+            due("come(0)", x.come(0), 4);
+            due("go(6)", x.go(6), 5);
+            due("group(4, 1): rule 1 of COMES", x.group(4, 1), 97);
+            due("group(5, 1): rule 0 of GOES", x.group(5, 1), 1);
             x.restore(1);
             x.come(7);
             x.go(7);
@@ -680,18 +684,13 @@ public final class BoundsLifeTest {
         for (int i = 0; i < 120; i++) {
             x.vouch(i % 19, i % 19 + 1, 5, 0, 0);
         }
-        for (int time = 1; time <= 30; time++) {
-            due("time " + time, time % 2 == 1 ? x.come(0) : x.go(0), time);
-        }
-        x.restore(0);
-        x.rules(1, 1);
-        for (int i = 0; i < 120; i++) {
-            x.vouch(i % 19, i % 19 + 1, 5, 0, 0);
-        }
-        for (int time = 1; time <= 30; time++) {
-            due("time " + time, time % 2 == 1 ? x.come(time % 4) : x.go((time - 1) % 4), time);
-        }
         x.back(119, 3);
+        x.rules(1, 1);
+        x.come(7);
+        for (int time = 2; time <= 29; time++) {
+            due("time " + time, time % 2 == 0 ? x.come(0) : x.go(0), time);
+        }
+        due("the last time", x.come(3), 30);
         x.image(1);
         x.restore(0);
         due("vouch", x.vouch(0, 1, 0, 0, 0), 0);
@@ -703,8 +702,10 @@ public final class BoundsLifeTest {
         due("back(118)", x.back(118, 3), 0);
         due("sure(0, 6)", x.sure(0, 6, 0, 0), 6);
         due("sure(0, 7)", x.sure(0, 7, 0, 0), -1);
-        due("group(29, 0)", x.group(29, 0), 2);
-        due("group(30, 0)", x.group(30, 0), 0);
-        due("group(30, 1)", x.group(30, 1), 10);
+        due("group(1, 0)", x.group(1, 0), 128);
+        due("group(29, 0)", x.group(29, 0), 128);
+        due("group(29, 1)", x.group(29, 1), 129);
+        due("group(30, 0)", x.group(30, 0), 128 + 8);
+        due("group(30, 1)", x.group(30, 1), 128 + 8 + 1);
     }
 }

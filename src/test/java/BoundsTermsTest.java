@@ -19,6 +19,7 @@ public final class BoundsTermsTest {
         pairsAreGot();
         sealsAreOpened();
         sealsOneByOne();
+        manyAreHad();
         partsAreMade();
         raisesAreMade();
         raisesBecomeMore();
@@ -222,6 +223,30 @@ public final class BoundsTermsTest {
         due("make() one behind the last", Tape.make(x, secret[20]), 0);
         due("have() one more", Tape.have(x, secret[20]), -5);
         due("make() one behind the last, still", Tape.make(x, secret[20]), 0);
+    }
+
+    /** n ATOMS of a RAISE, the last in order first: so as many as can be are moved. */
+    private static String bys(int two, int one, int none) {
+        return Texts.times(two, ",lot 2", "") + Texts.times(one, ",lot 1", "") + Texts.times(none, ",key 0", "");
+    }
+
+    /** Twenty of twenty words each: no two of them have a RAISE in common. */
+    private static void manyAreHad() {
+        CHECK.says("what a RAISE that is GOT becomes by more ATOMS that can be MADE");
+        HandShakes x = new HandShakes();
+        for (int i = 1; i <= 20; i++) {
+            int two = i % 5 + 1;
+            int one = i / 5 + 1;
+            due("have() " + i, Tape.have(x, "raise(" + (i % 2 == 0 ? "g" : "name 0") + bys(two, one, 18 - two - one) + ")"), i);
+        }
+        for (int i = 1; i <= 20; i++) {
+            int two = i % 5 + 1;
+            int one = i / 5 + 1;
+            String base = "raise(" + (i % 2 == 0 ? "g" : "name 0");
+            due("make() " + i, Tape.make(x, base + bys(0, 0, 18 - two - one) + bys(two, one, 0) + ")"), 1);
+            due("make() " + i + " with one fewer", Tape.make(x, base + bys(two, one, 17 - two - one) + ")"), 0);
+            due("make() " + i + " with another one", Tape.make(x, base + bys(two + 6, one, 12 - two - one) + ")"), 0);
+        }
     }
 
     private static void partsAreMade() {

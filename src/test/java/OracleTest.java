@@ -270,8 +270,45 @@ public final class OracleTest {
         }
     }
 
+    /** ATOMS that raise, the last in order first, so that all ahead of them must move. */
+    private String manyBys(int n) {
+        String[] atoms = {",lot2", ",lot1", ",lot0", ",key1", ",key0"};
+        StringBuilder text = new StringBuilder();
+        for (int i = 0; i < n; i++) {
+            text.append(atoms[i * 5 / n]);
+        }
+        return text.toString();
+    }
+
+    /** As long as a TEXT can be, with RAISES by many ATOMS: as many TERMS as can be. */
+    private String heavy() {
+        StringBuilder text = new StringBuilder();
+        List<Set<Integer>> taken = List.of(new HashSet<>(), new HashSet<>());
+        for (int i = 0; i < 12; i++) {
+            int column = pick(2);
+            int x = pick(4);
+            String line;
+            if (!taken.get(column).contains(x) || pick(4) == 0) {
+                int y = pick(4);
+                line = pick(3) == 0 ? "take pair(x" + x + ",x" + y + ")" : "take x" + x;
+                taken.get(column).add(x);
+                if (line.contains("pair")) {
+                    taken.get(column).add(y);
+                }
+            } else {
+                String term = "raise(x" + x + manyBys(1 + pick(18)) + ")";
+                line = "send " + (pick(4) == 0 ? "pair(x" + x + ",lot" + pick(3) + ")" : term);
+            }
+            String more = (i == 0 ? "" : ";") + (column == 0 ? "a " : "b ") + line;
+            if (text.length() + more.length() <= 380) {
+                text.append(more);
+            }
+        }
+        return text.append(pick(2) == 0 ? ";a sure lot 0" : ";b sure key 0").toString();
+    }
+
     private void courses() {
-        String text = pick(3) == 0 ? protocol(false) : likely();
+        String text = pick(3) == 0 ? protocol(false) : pick(5) == 0 ? heavy() : likely();
         List<Oracle.Line> lines = readable(text);
         if (lines == null || text.length() > 400) {
             return;
@@ -352,7 +389,8 @@ public final class OracleTest {
         StringBuilder story = new StringBuilder();
         int size = pick(4);
         while (shelf.size() < size) {
-            String term = pick(2) == 0 ? term(1, List.of(0, 1), false) : oneOf("lot 1", "raise(x 0,lot 0)", "raise(g,lot 0)",
+            String term = pick(8) == 0 ? "raise(" + oneOf("g", "x 0") + manyBys(1 + pick(17)) + ")"
+                    : pick(2) == 0 ? term(1, List.of(0, 1), false) : oneOf("lot 1", "raise(x 0,lot 0)", "raise(g,lot 0)",
                     "lot 0", "x 0", "seal(lot 1,key 0)", "sum(pair(x 0,raise(g,lot 0)))", "pair(x 0,lot 0)");
             due("shelf() " + term, Tape.shelf(x, term), shelf.size());
             shelf.add(Oracle.readAlone(term, "shelf"));
