@@ -41,6 +41,8 @@ public final class BoundsCourseTest {
         fillFree();
         fillOneRoom();
         alikeAnswers();
+        manyTerms();
+        manyTermsOfStates();
         CHECK.close();
     }
 
@@ -739,6 +741,37 @@ public final class BoundsCourseTest {
         due("fill(3): few enough STATES", x.fill(3), 1);
         due("fill(4): CHEATED", x.fill(4), -1);
         due("filled(0): the latest stays", x.filled(0), 0);
+    }
+
+    private static void manyTerms() {
+        CHECK.says("An END goes on by itself: it sends; it is SURE of the TERM of \"sure\"");
+        String three = "a send " + Texts.heavy("g") + ";a send " + Texts.heavy("name 0") + ";a send " + Texts.heavy("name 1");
+        for (int rooms = 1; rooms <= 2; rooms++) {
+            HandShakes x = CHECK.with(three + ";a sure g");
+            proves(x, 0, rooms, 0, 1);
+            due("last() LINES", x.last(rooms - 1, 0, 0), 4);
+            due("last() STOPPED", x.last(rooms - 1, 0, 1), 0);
+        }
+        // None of the rows holds, however many TERMS are in the holes.
+        HandShakes y = CHECK.with("a send hole 0;a send hole 1;a send hole 2;a sure g");
+        Tape.shelf(y, Texts.heavy("g"));
+        Tape.shelf(y, Texts.heavy("name 0"));
+        Tape.shelf(y, Texts.heavy("name 1"));
+        due("fill()", y.fill(0), -1);
+    }
+
+    /** Each STATE that is gone through has sent other TERMS: the last but one of the longest rows alone is CHEATED. */
+    private static void manyTermsOfStates() {
+        CHECK.says("STATES are gone through, each once, by how many TAKES lead there at least");
+        HandShakes x = CHECK.with("a take x 0;a send " + Texts.sums(5, "pair(x 0,lot 0)") + ";a take x 1;a send "
+                + Texts.sums(4, "pair(x 1,pair(x 0,lot 1))") + ";a take g;a send " + Texts.sums(4, "pair(x 1,pair(x 0,lot 2))")
+                + ";a show pair(x 0,x 1);b show pair(name 1,name 1);a sure g");
+        proves(x, 0, 1, 0, 1);
+        // Behind each x 0 seven CANDIDATES can be MADE, and g, too, behind the two that are RAISES of it.
+        due("found(0)", x.found(0), 1 + 6 + 44 + 43);
+        due("course(0, 1)", x.course(0, 1), 5);
+        due("course(1, 1)", x.course(1, 1), 5);
+        due("last() LINES", x.last(0, 0, 0), 8);
     }
 
     /** All that can be asked of a search, in a row. */

@@ -694,7 +694,9 @@ public final class BoundsLifeTest {
         x.image(1);
         x.restore(0);
         due("vouch", x.vouch(0, 1, 0, 0, 0), 0);
-        due("come(5)", x.come(5), 1);
+        for (int time = 1; time <= 30; time++) {
+            due("time " + time, time % 2 == 1 ? x.come(5) : x.go(5), time);
+        }
         x.restore(1);
         due("vouch 120", x.vouch(0, 1, 0, 0, 0), -5);
         due("come(5) as the 31st", x.come(5), -5);

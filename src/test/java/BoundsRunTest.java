@@ -23,6 +23,7 @@ public final class BoundsRunTest {
         waits();
         inOrder();
         stopsBySize();
+        manyTerms();
         fitsFromTheLeft();
         bits();
         tries();
@@ -268,6 +269,14 @@ public final class BoundsRunTest {
                 shares(x, 3, 10, 0, 3, 1, 1);
             }
         }
+    }
+
+    private static void manyTerms() {
+        CHECK.says("A RUN: ROOM 0 alone, the THIRD hands all on");
+        HandShakes x = CHECK.with("a send " + Texts.heavy("g") + ";a send " + Texts.heavy("name 0") + ";a send " + Texts.heavy("name 1")
+                + ";a sure g;b take x 0;b sure x 0");
+        shares(x, 0, 10, 0, 1, 999, 1000);
+        shares(x, 0, 10, 0, 2, 1, 1000);
     }
 
     private static void fits(String take, String sent, int want) {

@@ -32,4 +32,10 @@ final class Texts {
     static String raised(String under, int n, String by) {
         return "raise(" + under + times(n, "," + by, "") + ")";
     }
+
+    /** RAISE of a TERM by eighteen ATOMS, the last in order first: as many RAISES as can be stand on the way to it. */
+    static String heavy(String under) {
+        return "raise(" + under + times(4, ",lot2", "") + times(4, ",lot1", "") + times(4, ",lot0", "") + times(3, ",key1", "")
+                + times(3, ",key0", "") + ")";
+    }
 }
