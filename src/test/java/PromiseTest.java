@@ -72,14 +72,6 @@ public final class PromiseTest {
         return x;
     }
 
-    private static String times(int n, String text, String between) {
-        StringBuilder all = new StringBuilder();
-        for (int i = 0; i < n; i++) {
-            all.append(i == 0 ? "" : between).append(text);
-        }
-        return all.toString();
-    }
-
     private static void newObject() {
         HandShakes x = of(1);
         for (int what = 0; what < 6; what++) {
@@ -184,14 +176,14 @@ public final class PromiseTest {
         refusedAt("a send g;c", 9);
         refusedAt("a send g b", 9);
         refusedAt("a send \u00e9", 7);
-        taken(times(12, "a send g", ";"));
-        refusedAt(times(13, "a send g", ";"), 12 * 9);
-        refusedAt(times(12, "a send g", ";") + ";", 12 * 9);
+        taken(Texts.times(12, "a send g", ";"));
+        refusedAt(Texts.times(13, "a send g", ";"), 12 * 9);
+        refusedAt(Texts.times(12, "a send g", ";") + ";", 12 * 9);
         taken("a sure g;b sure g");
         refusedAt("a sure g;b sure g;a sure g", 20);
         // 20 words: raise, g and 18 ATOMS; the 21st is at fault.
-        taken("a send raise(g" + times(18, ",lot 0", "") + ")");
-        refusedAt("a send raise(g" + times(19, ",lot 0", "") + ")", 7 + 7 + 18 * 6 + 1);
+        taken("a send raise(g" + Texts.times(18, ",lot 0", "") + ")");
+        refusedAt("a send raise(g" + Texts.times(19, ",lot 0", "") + ")", 7 + 7 + 18 * 6 + 1);
         // 11 words each: the 21st is the last pair of the second one.
         String eleven = "pair(pair(pair(g,g),pair(g,g)),pair(g,g))";
         refusedAt("a send pair(" + eleven + "," + eleven + ")", 7 + 5 + 41 + 1 + 31);
@@ -478,7 +470,7 @@ public final class PromiseTest {
         due("weakest(two shows)", x.weakest(3), 2);
         due("weakest(never)", x.weakest(4), 4);
         due("weakest(spent)", x.weakest(5), 0);
-        String shows = times(3, "a show lot 0;b show lot 0", ";");
+        String shows = Texts.times(3, "a show lot 0;b show lot 0", ";");
         HandShakes three = with(13, shows + ";a sure g", shows + ";a show lot 1;b show lot 1;a sure g");
         due("weakest(three shows)", three.weakest(0), 3);
         due("weakest(four shows)", three.weakest(1), 4);
@@ -489,7 +481,7 @@ public final class PromiseTest {
     }
 
     private static void share() {
-        HandShakes x = with(14, SHOWN, PLAIN, times(8, "a send g", ";"), times(9, "a send g", ";"),
+        HandShakes x = with(14, SHOWN, PLAIN, Texts.times(8, "a send g", ";"), Texts.times(9, "a send g", ";"),
                 "a send g;b take g;b sure g;a show lot 0;b show lot 0", "a send hole 0");
         for (int kind = 0; kind < 4; kind++) {
             due("share(0, 0) " + kind, x.share(0, 0, 0, kind, 0), kind == 0 ? 1 : 0);
