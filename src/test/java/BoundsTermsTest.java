@@ -21,6 +21,7 @@ public final class BoundsTermsTest {
         sealsOneByOne();
         manyAreHad();
         partsAreMade();
+        partsAreMadeTwice();
         raisesAreMade();
         raisesBecomeMore();
         nothingElse();
@@ -266,6 +267,25 @@ public final class BoundsTermsTest {
         made(Texts.sums(5, "g"), 0, Texts.sums(6, "g"));
         made(Texts.sized(20, "key 1"), 1, "key 1");
         made(Texts.sized(20, "key 1"), 0, "key 0");
+    }
+
+    /** What was found of a part must hold for the same part further on, however many are HAD. */
+    private static void partsAreMadeTwice() {
+        CHECK.says("a PAIR, a SEAL, a SUM, of which all parts can be MADE");
+        HandShakes x = new HandShakes();
+        for (int had = 0; had <= 20; had++) {
+            if (had > 0) {
+                due("have()", Tape.have(x, had == 1 ? "lot 0" : Texts.raised("name 0", had % 10 + 1, "key " + had / 11)), had);
+            }
+            String[] alike = {"pair(sum(lot 0),sum(lot 0))", "seal(pair(lot 0,lot 0),pair(lot 0,lot 0))",
+                "pair(sum(lot 0),seal(sum(lot 0),lot 0))", "raise(lot 0,lot 0,lot 0)"};
+            for (String wanted : alike) {
+                due("make() " + wanted + " from " + had, Tape.make(x, wanted), had > 0 ? 1 : 0);
+                due("make() a PAIR with lot 1 from " + had, Tape.make(x, "pair(" + wanted + ",pair(sum(lot 0),sum(lot 1)))"), 0);
+                due("make() a PAIR of " + wanted + " from " + had, Tape.make(x, "pair(" + wanted + ",sum(" + wanted + "))"),
+                        had > 0 ? 1 : 0);
+            }
+        }
     }
 
     private static void raisesAreMade() {
