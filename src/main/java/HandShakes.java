@@ -69,6 +69,10 @@ public final class HandShakes {
     private static final int ATOMS = 19;
     private static final int LOTS = 3;
 
+    // How often a RAISE's words have each BY, all in one number: KEYS, then an END's LOTS.
+    private static final int BY_BITS = 6;
+    private static final int BY_MASK = 63;
+
     // What a search for COURSES ends with.
     private static final int PROVED = 0;
     private static final int CHEATED = 1;
@@ -538,7 +542,7 @@ public final class HandShakes {
         Prover bench = prover;
         if (bench == null) {
             Terms terms = new Terms();
-            bench = new Prover(terms, new Known(terms), new Play(terms, shelves), new States());
+            bench = new Prover(terms, new Known(terms), new Play(terms, shelves), new States(new Taken(terms)));
             prover = bench;
         }
         return bench;
@@ -700,15 +704,6 @@ public final class HandShakes {
             int all = 0;
             for (int line = 0; line < lines; line++) {
                 all |= holes[line];
-            }
-            return all;
-        }
-
-        /** More TERMS than its words can make, those on the way to a RAISE by several ATOMS, too. */
-        int cost() {
-            int all = 0;
-            for (int i = 0; i < nodes && i < kind.length; i++) {
-                all += kind[i] == RAISE ? MOST_SIZE : 1;
             }
             return all;
         }
@@ -1057,50 +1052,39 @@ public final class HandShakes {
      * A RAISE by several ATOMS is a chain, the greatest ATOM outermost: so it has one shape.
      */
     private static final class Terms {
-        private static final int HEADS = 1024;
-        private static final int FIRST_ROOM = 256;
-        /** Far above what 400 STATES can send. */
-        private static final int MOST_ROOM = 300000;
+        private static final int HEADS = 512;
+        /**
+         * TERMS that a STATE can have at once, with no more parts each than its SIZE: what each END took for each x, the
+         * LINES of both ROOMS, and one that is TAKEN; and of one that turns out too large what is ahead of each bracket
+         * that is open, in a LINE and in what fills a hole of it, and the last two. The THIRD's two RAISES come to it.
+         * What else is asked needs less: make() has 21 TERMS of a LINE's words, a RUN one ROOM.
+         */
+        private static final int MOST_TERMS = ATOMS + 2
+                + (ENDS * XS + 2 * MOST_LINES + 1 + 2 * MOST_BRACKETS + 2) * MOST_SIZE;
 
-        int[] kind = new int[FIRST_ROOM];
-        int[] left = new int[FIRST_ROOM];
-        int[] right = new int[FIRST_ROOM];
-        int[] size = new int[FIRST_ROOM];
+        final int[] kind = new int[MOST_TERMS];
+        final int[] left = new int[MOST_TERMS];
+        final int[] right = new int[MOST_TERMS];
+        final int[] size = new int[MOST_TERMS];
         /** When a TERM was last GOT, and last found to be MADE or not: see Known. */
-        int[] got = new int[FIRST_ROOM];
-        int[] made = new int[FIRST_ROOM];
-        private int[] next = new int[FIRST_ROOM];
-        private int[] slot = new int[FIRST_ROOM];
+        final int[] got = new int[MOST_TERMS];
+        final int[] made = new int[MOST_TERMS];
+        private final int[] next = new int[MOST_TERMS];
         private final int[] heads = new int[HEADS];
+        /** How often each ATOM is in a RAISE that is made. */
+        private final int[] by = new int[ATOM_G];
         int count;
 
         /** The ATOMS alone. */
         void restart() {
             Arrays.fill(heads, NONE);
-            count = Math.min(ATOMS, kind.length);
+            count = ATOMS;
             for (int i = 0; i < count; i++) {
                 kind[i] = ATOM;
                 size[i] = 1;
                 got[i] = 0;
                 made[i] = 0;
             }
-        }
-
-        /** Place for so many more. */
-        void reserve(int more) {
-            int wanted = Math.min(MOST_ROOM, count + more);
-            if (wanted <= kind.length) {
-                return;
-            }
-            int room = Math.min(MOST_ROOM, Math.max(wanted, 2 * kind.length));
-            kind = Arrays.copyOf(kind, room);
-            left = Arrays.copyOf(left, room);
-            right = Arrays.copyOf(right, room);
-            size = Arrays.copyOf(size, room);
-            got = Arrays.copyOf(got, room);
-            made = Arrays.copyOf(made, room);
-            next = Arrays.copyOf(next, room);
-            slot = Arrays.copyOf(slot, room);
         }
 
         /** The TERM of a kind with these parts; NONE, if its SIZE would be above the most, or a part is none. */
@@ -1117,8 +1101,7 @@ public final class HandShakes {
             if (termSize > MOST_SIZE) {
                 return NONE;
             }
-            int mixed = (termKind * 7919 + first) * 31 + second;
-            int head = (mixed ^ mixed >>> 10) & HEADS - 1;
+            int head = headOf(termKind, first, second);
             int same = heads[head];
             for (int k = 0; k < count && same >= 0 && same < count; k++) {
                 if (kind[same] == termKind && left[same] == first && right[same] == second) {
@@ -1135,22 +1118,37 @@ public final class HandShakes {
             size[count] = termSize;
             got[count] = 0;
             made[count] = 0;
-            slot[count] = head;
             next[count] = heads[head];
             heads[head] = count;
             count++;
             return count - 1;
         }
 
-        /** RAISE of a TERM by one more ATOM, put where the order of ATOMS asks for it. */
-        private int raise(int term, int atom, int depth) {
-            if (term < 0 || term >= count || depth > MOST_SIZE) {
+        private static int headOf(int termKind, int first, int second) {
+            int mixed = (termKind * 7919 + first) * 31 + second;
+            return (mixed ^ mixed >>> 9) & HEADS - 1;
+        }
+
+        /** RAISE of a TERM by more ATOMS of an END: one chain by all of them, so that none is made on the way. */
+        int raise(int term, int bys, int end) {
+            if (term < 0 || term >= count || end < 0 || end >= ENDS) {
                 return NONE;
             }
-            if (kind[term] == RAISE && right[term] > atom) {
-                return join(RAISE, raise(left[term], atom, depth + 1), right[term]);
+            Arrays.fill(by, 0);
+            for (int word = 0; word < ATOM_LOT + LOTS; word++) {
+                by[word < ATOM_LOT ? word : word + LOTS * end] = bys >> BY_BITS * word & BY_MASK;
             }
-            return join(RAISE, term, atom);
+            int raised = term;
+            for (int k = 0; k <= MOST_SIZE && kind[raised] == RAISE; k++) {
+                by[right[raised]]++;
+                raised = left[raised];
+            }
+            for (int atom = 0; atom < ATOM_G; atom++) {
+                for (int k = 0; k < by[atom]; k++) {
+                    raised = join(RAISE, raised, atom);
+                }
+            }
+            return raised;
         }
 
         /** All TERMS made since there were so many are forgotten. */
@@ -1158,7 +1156,7 @@ public final class HandShakes {
             int least = Math.max(mark, ATOMS);
             while (count > least) {
                 count--;
-                heads[slot[count] & HEADS - 1] = next[count];
+                heads[headOf(kind[count], left[count], right[count])] = next[count];
             }
         }
 
@@ -1174,7 +1172,8 @@ public final class HandShakes {
 
     /** What is GOT from what is HAD, and what can be MADE from it. */
     private static final class Known {
-        private static final int MOST_GOT = 1024;
+        /** What the THIRD has, and each LINE of both ROOMS with its parts. */
+        private static final int MOST_GOT = ATOMS + 2 * MOST_LINES * MOST_SIZE;
 
         private final Terms terms;
         private final int[] list = new int[MOST_GOT];
@@ -1339,18 +1338,6 @@ public final class HandShakes {
             choice[2] = row % MOST_SHELF;
         }
 
-        /** More TERMS than all LINES of a ROOM can make. */
-        int cost() {
-            int all = script == null ? 0 : script.cost();
-            for (int line = 0; script != null && line < script.lines; line++) {
-                for (int hole = 0; hole < HOLES; hole++) {
-                    Script filling = (script.holes[line] >> hole & 1) != 0 ? inHole(hole) : null;
-                    all += filling == null ? 0 : filling.cost();
-                }
-            }
-            return all;
-        }
-
         private Script inHole(int hole) {
             int place = hole < 0 || hole >= HOLES ? NONE : choice[hole];
             return place < 0 || place >= shelf.length ? null : shelf[place];
@@ -1375,44 +1362,62 @@ public final class HandShakes {
             if (script == null || line < 0 || line >= script.lines) {
                 return NONE;
             }
-            return instance(script, script.root[line], end, 0);
+            return instance(script, script.root[line], end, 0, 0);
         }
 
         /** A TERM read alone, of END a of ROOM 0. */
         int alone(Script one) {
-            if (one == null || one.lines < 1) {
-                return NONE;
-            }
-            terms.reserve(one.cost());
-            return instance(one, one.root[0], 0, 0);
+            return one == null || one.lines < 1 ? NONE : instance(one, one.root[0], 0, 0, 0);
         }
 
-        private int instance(Script of, int node, int end, int depth) {
+        /**
+         * The TERM of a node for an END, RAISED by what stands around it; NONE, if its SIZE would be above the most:
+         * then nothing of it stays.
+         */
+        private int instance(Script of, int node, int end, int bys, int depth) {
             if (of == null || node < 0 || node >= of.nodes || end < 0 || end >= ENDS || depth > MOST_DEPTH) {
                 return NONE;
             }
             int first = of.left[node];
             int second = of.right[node];
-            switch (of.kind[node]) {
-                case G: return ATOM_G;
-                case NAME: return ATOM_NAME + first;
-                case KEY: return first;
-                case LOT: return ATOM_LOT + LOTS * end + first;
-                case X: return first < 0 || first >= XS ? NONE : took[XS * end + first];
-                case HOLE: {
-                    Script filling = inHole(first);
-                    return filling == null ? NONE : instance(filling, filling.root[0], end, depth + 1);
-                }
-                case SUM: return terms.join(SUM, instance(of, first, end, depth + 1), 0);
-                case RAISE: {
-                    int atom = second < ATOM_LOT ? second : second + LOTS * end;
-                    return terms.raise(instance(of, first, end, depth + 1), atom, 0);
-                }
-                default: {
-                    int one = instance(of, first, end, depth + 1);
-                    return one == NONE ? NONE : terms.join(of.kind[node], one, instance(of, second, end, depth + 1));
-                }
+            if (of.kind[node] == RAISE) {
+                return instance(of, first, end, bys + (1 << BY_BITS * second), depth + 1);
             }
+            if (of.kind[node] == HOLE) {
+                Script filling = inHole(first);
+                return filling == null ? NONE : instance(filling, filling.root[0], end, bys, depth + 1);
+            }
+            int before = terms.count;
+            int made = NONE;
+            switch (of.kind[node]) {
+                case G:
+                    made = ATOM_G;
+                    break;
+                case NAME:
+                    made = ATOM_NAME + first;
+                    break;
+                case KEY:
+                    made = first;
+                    break;
+                case LOT:
+                    made = ATOM_LOT + LOTS * end + first;
+                    break;
+                case X:
+                    made = first < 0 || first >= XS ? NONE : took[XS * end + first];
+                    break;
+                case SUM:
+                    made = terms.join(SUM, instance(of, first, end, 0, depth + 1), 0);
+                    break;
+                default:
+                    made = instance(of, first, end, 0, depth + 1);
+                    made = made == NONE ? NONE : terms.join(of.kind[node], made, instance(of, second, end, 0, depth + 1));
+                    break;
+            }
+            made = bys == 0 ? made : terms.raise(made, bys, end);
+            if (made == NONE) {
+                terms.forget(before);
+            }
+            return made;
         }
 
         /** Both ENDS of a ROOM go on as far as they can without a TAKE. */
@@ -1434,7 +1439,7 @@ public final class HandShakes {
             if (line == NONE || script.act[line] == TAKE) {
                 return false;
             }
-            if (instance(script, script.root[line], end, 0) == NONE) {
+            if (instance(script, script.root[line], end, 0, 0) == NONE) {
                 stopped[end] = 1;
                 return false;
             }
@@ -1452,7 +1457,7 @@ public final class HandShakes {
             if (lineA == NONE || lineB == NONE || script.act[lineA] != SHOW || script.act[lineB] != SHOW) {
                 return false;
             }
-            boolean alike = instance(script, script.root[lineA], a, 0) == instance(script, script.root[lineB], b, 0);
+            boolean alike = instance(script, script.root[lineA], a, 0, 0) == instance(script, script.root[lineB], b, 0, 0);
             if (!alike && unlike >= careless) {
                 stopped[a] = 1;
                 stopped[b] = 1;
@@ -1474,10 +1479,134 @@ public final class HandShakes {
             for (int k = 0; k < at[end]; k++) {
                 int line = script.lineAt(end & 1, k);
                 if (line != NONE && script.act[line] == SURE) {
-                    return instance(script, script.root[line], end, 0);
+                    return instance(script, script.root[line], end, 0, 0);
                 }
             }
             return NONE;
+        }
+    }
+
+    /**
+     * The TERMS that ENDS took, each once, written out sign by sign: so a search need not keep what its STATES sent.
+     * A sign is an ATOM, a PAIR, a SEAL or a SUM ahead of its parts, or one ATOM of a RAISE ahead of what is under it.
+     */
+    private static final class Taken {
+        /** Each STATE has two more than the one ahead of it at most, and so has that for which there is no place. */
+        private static final int MOST_TAKEN = 2 * MOST_STATES;
+        private static final int HEADS = 256;
+        /** Three longs of ten signs: as many as the largest SIZE. */
+        private static final int LONGS = 3;
+        private static final int SIGNS = 10;
+        private static final int SIGN_BITS = 6;
+        private static final int SIGN_MASK = 63;
+        private static final int RAISED = 32;
+
+        private final Terms terms;
+        private final long[] written = new long[LONGS * MOST_TAKEN];
+        /** The number of each among the TERMS of now; NONE, if it was forgotten there. */
+        private final int[] now = new int[MOST_TAKEN];
+        private final int[] next = new int[MOST_TAKEN];
+        private final int[] heads = new int[HEADS];
+        private final long[] draft = new long[LONGS];
+        /** How many signs are written or read. */
+        private int signs;
+        private int count;
+
+        Taken(Terms all) {
+            terms = all;
+        }
+
+        void restart() {
+            Arrays.fill(heads, NONE);
+            count = 0;
+        }
+
+        /** To be called when the TERMS are forgotten. */
+        void leaveTerms() {
+            Arrays.fill(now, NONE);
+        }
+
+        /** The number of a TERM among what was taken: it is from now on. */
+        int numberOf(int term) {
+            Arrays.fill(draft, 0L);
+            signs = 0;
+            write(term, 0);
+            int head = headOfDraft();
+            int one = heads[head];
+            for (int k = 0; k < count && one >= 0 && one < count; k++) {
+                if (isDraft(one)) {
+                    now[one] = term;
+                    return one;
+                }
+                one = next[one];
+            }
+            if (count >= MOST_TAKEN) {
+                return NONE;
+            }
+            System.arraycopy(draft, 0, written, LONGS * count, LONGS);
+            now[count] = term;
+            next[count] = heads[head];
+            heads[head] = count;
+            count++;
+            return count - 1;
+        }
+
+        /** A TERM that was taken, by its number here. */
+        int termOf(int number) {
+            if (number < 0 || number >= count || number >= MOST_TAKEN) {
+                return NONE;
+            }
+            if (now[number] == NONE) {
+                signs = 0;
+                now[number] = read(LONGS * number, 0);
+            }
+            return now[number];
+        }
+
+        private int headOfDraft() {
+            long mixed = (draft[0] * 31 + draft[1]) * 31 + draft[2];
+            return (int) (mixed ^ mixed >>> 12 ^ mixed >>> 24 ^ mixed >>> 36 ^ mixed >>> 48) & HEADS - 1;
+        }
+
+        private boolean isDraft(int number) {
+            for (int i = 0; i < LONGS; i++) {
+                if (written[LONGS * number + i] != draft[i]) {
+                    return false;
+                }
+            }
+            return true;
+        }
+
+        private void write(int term, int depth) {
+            if (term < 0 || term >= terms.count || signs >= LONGS * SIGNS || depth > MOST_SIZE) {
+                return;
+            }
+            int kind = terms.kind[term];
+            int sign = kind == ATOM ? term : kind == RAISE ? RAISED + terms.right[term] : ATOMS + kind;
+            draft[signs / SIGNS] |= (long) sign << SIGN_BITS * (signs % SIGNS);
+            signs++;
+            if (kind != ATOM) {
+                write(terms.left[term], depth + 1);
+            }
+            if (kind == PAIR || kind == SEAL) {
+                write(terms.right[term], depth + 1);
+            }
+        }
+
+        private int read(int from, int depth) {
+            if (from < 0 || from + LONGS > written.length || signs >= LONGS * SIGNS || depth > MOST_SIZE) {
+                return NONE;
+            }
+            int sign = (int) (written[from + signs / SIGNS] >>> SIGN_BITS * (signs % SIGNS)) & SIGN_MASK;
+            signs++;
+            if (sign < ATOMS) {
+                return sign;
+            }
+            int first = read(from, depth + 1);
+            if (sign >= RAISED) {
+                return terms.join(RAISE, first, sign - RAISED);
+            }
+            return terms.join(sign - ATOMS, first, sign == ATOMS + SUM ? 0 : read(from, depth + 1));
         }
     }
 
@@ -1486,7 +1615,9 @@ public final class HandShakes {
         private static final int HEADS = 512;
         private static final int WIDTH = 1 + ENDS * XS;
 
+        final Taken taken;
         private final int[] keys = new int[MOST_STATES * WIDTH];
+        /** The STATE that is looked at: where ENDS are, and what they took by its number among what was taken. */
         private final int[] key = new int[WIDTH];
         private final int[] next = new int[MOST_STATES];
         private final int[] heads = new int[HEADS];
@@ -1495,8 +1626,14 @@ public final class HandShakes {
         int count;
         private boolean over;
 
+        States(Taken all) {
+            taken = all;
+        }
+
         void restart() {
+            taken.restart();
             Arrays.fill(heads, NONE);
+            Arrays.fill(key, NONE);
             count = 0;
             over = false;
         }
@@ -1536,7 +1673,6 @@ public final class HandShakes {
             key[0] = packed;
             int mixed = packed;
             for (int i = 1; i < WIDTH; i++) {
-                key[i] = play.took[i - 1];
                 mixed = mixed * 31 + key[i];
             }
             return (mixed ^ mixed >>> 9 ^ mixed >>> 18) & HEADS - 1;
@@ -1551,19 +1687,29 @@ public final class HandShakes {
             return true;
         }
 
-        /** A play is put into a STATE. */
+        /** In the STATE that is looked at an END took a TERM for an x. */
+        void put(int end, int x, int term) {
+            if (end >= 0 && end < ENDS && x >= 0 && x < XS) {
+                key[1 + XS * end + x] = taken.numberOf(term);
+            }
+        }
+
+        /** A STATE is looked at, and a play put into it. */
         void load(int state, Play play) {
             if (state < 0 || state >= count || state >= MOST_STATES) {
                 return;
             }
-            int packed = keys[state * WIDTH];
+            System.arraycopy(keys, state * WIDTH, key, 0, WIDTH);
+            int packed = key[0];
             for (int end = ENDS - 1; end >= 0; end--) {
                 play.stopped[end] = packed & 1;
                 play.at[end] = packed >> 1 & 15;
                 packed >>= 5;
             }
             play.unlike = packed;
-            System.arraycopy(keys, state * WIDTH + 1, play.took, 0, ENDS * XS);
+            for (int i = 0; i < ENDS * XS; i++) {
+                play.took[i] = taken.termOf(key[1 + i]);
+            }
         }
     }
 
@@ -1580,7 +1726,8 @@ public final class HandShakes {
         int cheat;
         private final int[] candidates = new int[MOST_CANDIDATES];
         private int candidateCount;
-        private final int[] takes = new int[ENDS * MOST_CANDIDATES * MOST_CANDIDATES];
+        /** Each TAKE of a STATE leads to another one: behind so many there was one for which there is no place. */
+        private final int[] takes = new int[MOST_STATES + 1];
         private int takeCount;
         private int mark;
 
@@ -1604,9 +1751,6 @@ public final class HandShakes {
             freshTerms();
             states.restart();
             play.open(script, careless);
-            // A STATE's own TERMS and those of a STATE behind it, and two CANDIDATES.
-            int needed = 2 * rooms * play.cost() + 2;
-            terms.reserve(needed);
             for (int room = 0; room < rooms; room++) {
                 play.goOn(room);
             }
@@ -1615,8 +1759,8 @@ public final class HandShakes {
                 return CHEATED;
             }
             for (int i = 0; i < states.count && i < MOST_STATES; i++) {
-                terms.forget(mark);
-                terms.reserve(needed);
+                terms.forget(ATOMS);
+                states.taken.leaveTerms();
                 listTakes(i);
                 for (int k = 0; k < takeCount; k++) {
                     terms.forget(mark);
@@ -1677,7 +1821,7 @@ public final class HandShakes {
         private int sentTerm(int end, int k) {
             int line = play.script == null ? NONE : play.script.lineAt(end & 1, k);
             boolean sends = line != NONE && play.script.act[line] == SEND;
-            return sends ? play.instance(play.script, play.script.root[line], end, 0) : NONE;
+            return sends ? play.instance(play.script, play.script.root[line], end, 0, 0) : NONE;
         }
 
         /** All TAKES that a STATE allows, in order. */
@@ -1693,7 +1837,7 @@ public final class HandShakes {
             }
             listCandidates();
             hear();
-            // What was sent stays, as STATES hold parts of it; what comes behind it is forgotten again.
+            // What was sent stays for all TAKES, as CANDIDATES are of it; what a TAKE makes is forgotten again.
             mark = terms.count;
             for (int end = 0; end < 2 * rooms; end++) {
                 if (play.actOf(end) == TAKE) {
@@ -1769,13 +1913,18 @@ public final class HandShakes {
             }
             int free = play.script.free[line];
             if (first >= 0 && free != 0) {
-                putX(end, Integer.numberOfTrailingZeros(free), candidates[first]);
+                takeX(end, Integer.numberOfTrailingZeros(free), candidates[first]);
             }
             if (second >= 0 && (free & free - 1) != 0) {
-                putX(end, Integer.numberOfTrailingZeros(free & free - 1), candidates[second]);
+                takeX(end, Integer.numberOfTrailingZeros(free & free - 1), candidates[second]);
             }
             play.at[end]++;
             play.goOn(end / 2);
+        }
+
+        private void takeX(int end, int x, int term) {
+            putX(end, x, term);
+            states.put(end, x, term);
         }
 
         private void listCandidates() {
@@ -1930,7 +2079,6 @@ public final class HandShakes {
             Arrays.fill(fate, 0);
             play.terms.restart();
             play.open(script, 0);
-            play.terms.reserve(play.cost());
             for (int run = 0; run < 1 << MOST_EVENTS; run++) {
                 runOnce(script);
                 if (tooMany) {
@@ -2071,7 +2219,7 @@ public final class HandShakes {
                         && fits(script.right[node], play.terms.right[term], end, depth + 1);
             }
             // Under a SUM or a RAISE nothing can be put for an x: without what stands ahead of it there is no TERM.
-            return play.instance(script, node, end, 0) == term;
+            return play.instance(script, node, end, 0, 0) == term;
         }
 
         /** Whether both ENDS were at a show and went on. */
