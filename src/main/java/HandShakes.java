@@ -1052,7 +1052,7 @@ public final class HandShakes {
      * A RAISE by several ATOMS is a chain, the greatest ATOM outermost: so it has one shape.
      */
     private static final class Terms {
-        private static final int HEADS = 512;
+        private static final int HEADS = 64;
         /**
          * TERMS that a STATE can have at once, with no more parts each than its SIZE: what each END took for each x, the
          * LINES of both ROOMS, and one that is TAKEN; and of one that turns out too large what is ahead of each bracket
@@ -1101,7 +1101,7 @@ public final class HandShakes {
             if (termSize > MOST_SIZE) {
                 return NONE;
             }
-            int head = headOf(termKind, first, second);
+            int head = termKind + 7 * first + 19 * second & HEADS - 1;
             int same = heads[head];
             for (int k = 0; k < count && same >= 0 && same < count; k++) {
                 if (kind[same] == termKind && left[same] == first && right[same] == second) {
@@ -1122,11 +1122,6 @@ public final class HandShakes {
             heads[head] = count;
             count++;
             return count - 1;
-        }
-
-        private static int headOf(int termKind, int first, int second) {
-            int mixed = (termKind * 7919 + first) * 31 + second;
-            return (mixed ^ mixed >>> 9) & HEADS - 1;
         }
 
         /** RAISE of a TERM by more ATOMS of an END: one chain by all of them, so that none is made on the way. */
@@ -1156,7 +1151,7 @@ public final class HandShakes {
             int least = Math.max(mark, ATOMS);
             while (count > least) {
                 count--;
-                heads[headOf(kind[count], left[count], right[count])] = next[count];
+                heads[kind[count] + 7 * left[count] + 19 * right[count] & HEADS - 1] = next[count];
             }
         }
 
@@ -1304,8 +1299,9 @@ public final class HandShakes {
 
     /** Where the ENDS are, what they took, and the TERMS that LINES are for them. */
     private static final class Play {
-        /** A LINE's words and those of the SHELF's TERM in a hole of it. */
-        private static final int MOST_DEPTH = 2 * MOST_WORDS + 2;
+        /** Brackets of a LINE, and of the SHELF's TERM in a hole of it; words of both. */
+        private static final int MOST_DEPTH = 2 * MOST_BRACKETS;
+        private static final int MOST_LINKS = 2 * MOST_WORDS;
 
         final Terms terms;
         private final Script[] shelf;
@@ -1362,62 +1358,59 @@ public final class HandShakes {
             if (script == null || line < 0 || line >= script.lines) {
                 return NONE;
             }
-            return instance(script, script.root[line], end, 0, 0);
+            return instance(script, script.root[line], end, 0);
         }
 
         /** A TERM read alone, of END a of ROOM 0. */
         int alone(Script one) {
-            return one == null || one.lines < 1 ? NONE : instance(one, one.root[0], 0, 0, 0);
+            return one == null || one.lines < 1 ? NONE : instance(one, one.root[0], 0, 0);
         }
 
         /**
-         * The TERM of a node for an END, RAISED by what stands around it; NONE, if its SIZE would be above the most:
-         * then nothing of it stays.
+         * The TERM of a node for an END; NONE, if its SIZE would be above the most: then nothing of it stays.
+         * All that RAISES it comes together first, so that no RAISE is made on the way to another one.
          */
-        private int instance(Script of, int node, int end, int bys, int depth) {
-            if (of == null || node < 0 || node >= of.nodes || end < 0 || end >= ENDS || depth > MOST_DEPTH) {
+        private int instance(Script of, int node, int end, int depth) {
+            Script in = of;
+            int here = node;
+            int bys = 0;
+            for (int k = 0; k < MOST_LINKS && isLink(in, here); k++) {
+                if (in.kind[here] == RAISE) {
+                    bys += 1 << BY_BITS * in.right[here];
+                    here = in.left[here];
+                } else {
+                    in = inHole(in.left[here]);
+                    here = in == null ? NONE : in.root[0];
+                }
+            }
+            if (in == null || here < 0 || here >= in.nodes || end < 0 || end >= ENDS || depth > MOST_DEPTH) {
                 return NONE;
             }
-            int first = of.left[node];
-            int second = of.right[node];
-            if (of.kind[node] == RAISE) {
-                return instance(of, first, end, bys + (1 << BY_BITS * second), depth + 1);
-            }
-            if (of.kind[node] == HOLE) {
-                Script filling = inHole(first);
-                return filling == null ? NONE : instance(filling, filling.root[0], end, bys, depth + 1);
-            }
             int before = terms.count;
-            int made = NONE;
-            switch (of.kind[node]) {
-                case G:
-                    made = ATOM_G;
-                    break;
-                case NAME:
-                    made = ATOM_NAME + first;
-                    break;
-                case KEY:
-                    made = first;
-                    break;
-                case LOT:
-                    made = ATOM_LOT + LOTS * end + first;
-                    break;
-                case X:
-                    made = first < 0 || first >= XS ? NONE : took[XS * end + first];
-                    break;
-                case SUM:
-                    made = terms.join(SUM, instance(of, first, end, 0, depth + 1), 0);
-                    break;
-                default:
-                    made = instance(of, first, end, 0, depth + 1);
-                    made = made == NONE ? NONE : terms.join(of.kind[node], made, instance(of, second, end, 0, depth + 1));
-                    break;
+            int kind = in.kind[here];
+            int first = in.left[here];
+            int made = first;
+            if (kind == PAIR || kind == SEAL || kind == SUM) {
+                int one = instance(in, first, end, depth + 1);
+                int other = kind == SUM || one == NONE ? 0 : instance(in, in.right[here], end, depth + 1);
+                made = terms.join(kind, one, other);
+            } else if (kind == X) {
+                made = first < 0 || first >= XS ? NONE : took[XS * end + first];
+            } else if (kind != KEY) {
+                made += kind == G ? ATOM_G : kind == NAME ? ATOM_NAME : ATOM_LOT + LOTS * end;
             }
-            made = bys == 0 ? made : terms.raise(made, bys, end);
+            if (bys != 0) {
+                made = terms.raise(made, bys, end);
+            }
             if (made == NONE) {
                 terms.forget(before);
             }
             return made;
+        }
+
+        /** Whether a TERM stands further on: under a RAISE, or in a hole. */
+        private static boolean isLink(Script in, int node) {
+            return in != null && node >= 0 && node < in.nodes && (in.kind[node] == RAISE || in.kind[node] == HOLE);
         }
 
         /** Both ENDS of a ROOM go on as far as they can without a TAKE. */
@@ -1439,7 +1432,7 @@ public final class HandShakes {
             if (line == NONE || script.act[line] == TAKE) {
                 return false;
             }
-            if (instance(script, script.root[line], end, 0, 0) == NONE) {
+            if (instance(script, script.root[line], end, 0) == NONE) {
                 stopped[end] = 1;
                 return false;
             }
@@ -1457,7 +1450,7 @@ public final class HandShakes {
             if (lineA == NONE || lineB == NONE || script.act[lineA] != SHOW || script.act[lineB] != SHOW) {
                 return false;
             }
-            boolean alike = instance(script, script.root[lineA], a, 0, 0) == instance(script, script.root[lineB], b, 0, 0);
+            boolean alike = instance(script, script.root[lineA], a, 0) == instance(script, script.root[lineB], b, 0);
             if (!alike && unlike >= careless) {
                 stopped[a] = 1;
                 stopped[b] = 1;
@@ -1479,7 +1472,7 @@ public final class HandShakes {
             for (int k = 0; k < at[end]; k++) {
                 int line = script.lineAt(end & 1, k);
                 if (line != NONE && script.act[line] == SURE) {
-                    return instance(script, script.root[line], end, 0, 0);
+                    return instance(script, script.root[line], end, 0);
                 }
             }
             return NONE;
@@ -1493,7 +1486,7 @@ public final class HandShakes {
     private static final class Taken {
         /** Each STATE has two more than the one ahead of it at most, and so has that for which there is no place. */
         private static final int MOST_TAKEN = 2 * MOST_STATES;
-        private static final int HEADS = 256;
+        private static final int HEADS = 64;
         /** Three longs of ten signs: as many as the largest SIZE. */
         private static final int LONGS = 3;
         private static final int SIGNS = 10;
@@ -1565,7 +1558,7 @@ public final class HandShakes {
 
         private int headOfDraft() {
             long mixed = (draft[0] * 31 + draft[1]) * 31 + draft[2];
-            return (int) (mixed ^ mixed >>> 12 ^ mixed >>> 24 ^ mixed >>> 36 ^ mixed >>> 48) & HEADS - 1;
+            return (int) (mixed ^ mixed >>> 12 ^ mixed >>> 30 ^ mixed >>> 48) & HEADS - 1;
         }
 
         private boolean isDraft(int number) {
@@ -1821,7 +1814,7 @@ public final class HandShakes {
         private int sentTerm(int end, int k) {
             int line = play.script == null ? NONE : play.script.lineAt(end & 1, k);
             boolean sends = line != NONE && play.script.act[line] == SEND;
-            return sends ? play.instance(play.script, play.script.root[line], end, 0, 0) : NONE;
+            return sends ? play.instance(play.script, play.script.root[line], end, 0) : NONE;
         }
 
         /** All TAKES that a STATE allows, in order. */
@@ -2219,7 +2212,7 @@ public final class HandShakes {
                         && fits(script.right[node], play.terms.right[term], end, depth + 1);
             }
             // Under a SUM or a RAISE nothing can be put for an x: without what stands ahead of it there is no TERM.
-            return play.instance(script, node, end, 0, 0) == term;
+            return play.instance(script, node, end, 0) == term;
         }
 
         /** Whether both ENDS were at a show and went on. */

@@ -43,6 +43,13 @@ public final class BoundsCourseTest {
         alikeAnswers();
         manyTerms();
         manyTermsOfStates();
+        manyTermsOfTakes();
+        manyTaken();
+        careOfOneRoom();
+        tookEachKind();
+        tookTheLargest();
+        tookTheSame();
+        raisedHoles();
         CHECK.close();
     }
 
@@ -772,6 +779,145 @@ public final class BoundsCourseTest {
         due("course(0, 1)", x.course(0, 1), 5);
         due("course(1, 1)", x.course(1, 1), 5);
         due("last() LINES", x.last(0, 0, 0), 8);
+    }
+
+    /** The TERMS of all STATES together, or of all TAKES, are some thousands: the last row of TAKES alone is CHEATED. */
+    private static void manyTermsOfTakes() {
+        CHECK.says("STATES are gone through, each once, by how many TAKES lead there at least");
+        HandShakes x = CHECK.with("b send pair(pair(lot0,lot1),pair(lot2,sum(g)));a take pair(x0,x1);a send "
+                + "raise(seal(x0,x1),lot1,lot1,lot1,lot1,lot1,lot1,lot0,lot0,lot0,lot0,lot0,lot0);a take g;a show pair(x0,x1);"
+                + "b show pair(g,g);a sure g");
+        proves(x, 0, 1, 0, 1);
+        // Six CANDIDATES and b's eight: all can be MADE. What a sends is of SIZE 30 at most.
+        due("found(0)", x.found(0), 1 + 14 * 14 + 14 * 14);
+        due("found(1)", x.found(1), 2);
+        due("course(0, 1)", x.course(0, 1), 13);
+        due("course(0, 2)", x.course(0, 2), 13);
+        due("last() LINES", x.last(0, 0, 0), 5);
+        CHECK.says("an END at \"take\" takes any TERM that its LINE's can be and the THIRD can MAKE");
+        // Each CANDIDATE with each other one makes TERMS of its own; those with what was SEALED alone can be MADE.
+        HandShakes y = CHECK.with("b send pair(pair(pair(lot0,lot1),pair(lot2,key1)),pair(pair(sum(lot0),sum(lot1)),"
+                + "pair(sum(g),sum(name0))));b send seal(pair(sum(g),sum(name0)),key0);"
+                + "a take sum(sum(sum(seal(pair(x0,x1),key0))));a sure g");
+        proves(y, 0, 1, 0, 1);
+        due("found(0)", y.found(0), 2);
+        due("course(0, 1)", y.course(0, 1), 19);
+        due("course(0, 2)", y.course(0, 2), 21);
+    }
+
+    /** Each STATE took two TERMS that no other one did: five hundred of them in all. */
+    private static void manyTaken() {
+        CHECK.says("STATES are gone through, each once");
+        String[] around = {"sum(", "seal(key1,", "pair(lot1,"};
+        String[] texts = new String[around.length];
+        for (int i = 0; i < around.length; i++) {
+            String first = around[i] + "x0)";
+            String second = around[i] + "x1)";
+            texts[i] = "b send pair(g,lot2);a take pair(x0,x1);a send seal(pair(sum(pair(x0,x1)),seal(x0,x1)),key0);"
+                    + "b take seal(pair(x0,x1),key0);b send seal(pair(" + first + "," + second + "),key1);a take seal(pair(x2,x3),key1);"
+                    + "a send seal(pair(sum(x2),x3),sum(key0));b take seal(pair(x2,x3),sum(key0));"
+                    + "a show pair(pair(sum(x2),x3),pair(x0,x1));b show pair(pair(x2,x3),pair(lot2,lot2));a sure g";
+        }
+        HandShakes x = CHECK.with(texts);
+        for (int k = 0; k < 6; k++) {
+            proves(x, k % 3, 1, 0, 1);
+            // Nine CANDIDATES of each x of a; what follows is told by them.
+            due("found(0)", x.found(0), 1 + 4 * 81);
+            due("found(1)", x.found(1), 4);
+            due("course(0, 1)", x.course(0, 1), 8);
+            due("course(0, 2)", x.course(0, 2), 8);
+        }
+    }
+
+    private static void careOfOneRoom() {
+        CHECK.says("of such unlike ones the first so many as people are CARELESS (0 .. 3) go on");
+        HandShakes x = CHECK.with("a show g;b show name 0;a take g;a show g;b show name 0;a sure g");
+        for (int careless = 0; careless <= 3; careless++) {
+            proves(x, 0, 1, careless, careless >= 2 ? 1 : 0);
+        }
+        // In two ROOMS the other one's show comes between.
+        for (int careless = 0; careless <= 3; careless++) {
+            proves(x, 0, 2, careless, careless >= 3 ? 1 : 0);
+        }
+    }
+
+    /** What was taken is the same one a TAKE later, whatever kind of TERM it is: shown, it is like that one alone. */
+    private static void tookEachKind() {
+        CHECK.says("A STATE: how far ENDS are, what they took");
+        String[] kinds = {"pair(lot 0,lot 1)", "seal(lot 0,lot 1)", "sum(lot 0)", "raise(lot 0,lot 1)", "raise(lot 1,lot 0)"};
+        String all = "pair(" + kinds[0] + ",pair(" + kinds[1] + ",pair(" + kinds[2] + ",pair(" + kinds[3] + "," + kinds[4] + "))))";
+        String keys = "pair(raise(lot 1,key 1,lot 0),pair(pair(key 0,lot 0),pair(lot 0,key 0)))";
+        String[] shown = {all, kinds[0], "lot 0", "lot 1", kinds[1], kinds[2], kinds[3], kinds[4], keys, "raise(lot 1,key 1,lot 0)",
+            "pair(key 0,lot 0)", "key 0", "pair(lot 0,key 0)"};
+        // Those that are left out are the PAIRS of what follows, and key 1, which the THIRD can't MAKE.
+        int[] places = {6, 7, 8, 9, 11, 13, 15, 16, 17, 18, 21, 22, 23};
+        for (int i = 0; i < shown.length; i++) {
+            HandShakes x = CHECK.with("a send " + all + ";a send " + keys + ";a show " + shown[i] + ";b take x 0;b take g;b show x 0;b sure g");
+            proves(x, 0, 1, 0, 1);
+            due("course(0, 1) of " + shown[i], x.course(0, 1), places[i]);
+            due("found(1) of " + shown[i], x.found(1), 2);
+            due("found(0) of " + shown[i], x.found(0), 1 + 23 + places[i] + (places[i] < 19 ? 1 : 0));
+        }
+    }
+
+    /** b takes what is of SIZE 30, 31, and nothing else is like what a shows. */
+    private static void tookTheLargest() {
+        CHECK.says("takes any TERM that its LINE's can be and the THIRD can MAKE, of a SIZE of at most 30");
+        String[] parts = {"pair(seal(lot 0,key 1),pair(sum(g),sum(lot 2)))", "pair(seal(lot 0,key 1),pair(sum(g),pair(g,lot 2)))",
+            "raise(g,lot 0,lot 1,lot 2,lot 0,lot 1,key 0,key 1)", "sum(raise(g,lot 0,lot 1,lot 2,lot 0,lot 1,key 0,key 1))"};
+        for (int i = 0; i < 4; i++) {
+            // a has the part, of a SIZE of nine or ten, from itself alone: it is SEALED.
+            String large = "sum(pair(x 1,pair(x 1,x 1)))";
+            HandShakes x = CHECK.with("a send seal(" + parts[i] + ",key 0);a take seal(x 1,key 0);a send " + large + ";a show " + large
+                    + ";b take x 0;b take g;b show x 0;b sure lot 0;b send lot 0");
+            proves(x, 0, 1, 0, 1 - i % 2);
+            due("found(1)", x.found(1), 3 - 3 * (i % 2));
+            due("last() LINES of b", x.last(0, 1, 0), i % 2 == 0 ? 5 : -1);
+        }
+        // The same of a RAISE, by sixteen ATOMS and some more.
+        for (int more = 11; more <= 13; more++) {
+            String raised = Texts.raised("x1", more, "lot2");
+            HandShakes x = CHECK.with("a send seal(" + Texts.raised("g", 16, "lot1") + ",key0);a take seal(x1,key0);a send " + raised
+                    + ";a show " + raised + ";b take x0;b take g;b show x0;b sure lot0;b send lot0");
+            proves(x, 0, 1, 0, more <= 12 ? 1 : 0);
+            due("last() LINES of b", x.last(0, 1, 0), more <= 12 ? 5 : -1);
+        }
+    }
+
+    /** Two rows of TAKES lead to one STATE, though what was taken stood in other places and was made in another order. */
+    private static void tookTheSame() {
+        CHECK.says("STATES are gone through, each once");
+        String ends = "a send raise(g,lot 0,key 0);a take raise(x 0,lot 0,key 0);a send raise(x 0,lot 1);"
+                + "b send raise(g,lot 0,key 1);b take raise(x 0,lot 0,key 1);b send raise(x 0,lot 2)";
+        HandShakes x = CHECK.with(ends);
+        // An END took nothing yet, g (which is under what was sent), or g RAISED by a LOT of the THIRD.
+        proves(x, 0, 1, 0, 0);
+        due("found(0)", x.found(0), 4 * 4);
+        proves(x, 0, 2, 0, 0);
+        due("found(0) in two ROOMS", x.found(0), 4 * 4 * 4 * 4);
+    }
+
+    /** A LINE's BYS and those of what fills its hole are of one RAISE, also if they are more than any RAISE can have. */
+    private static void raisedHoles() {
+        CHECK.says("It STOPS at a LINE of which the TERM would have a SIZE above 30");
+        for (int n = 13; n <= 18; n++) {
+            for (int k = 13; k <= 18; k++) {
+                HandShakes x = CHECK.with("a send " + Texts.raised("hole 0", k, "lot 0") + ";a sure g");
+                Tape.shelf(x, Texts.raised("g", n, "lot 0"));
+                // a STOPS, and is not SURE of g, or is CHEATED.
+                due("fill() of " + n + " and " + k, x.fill(0), 2 + n + k > 30 ? 2 + n : -1);
+            }
+        }
+        CHECK.says("their order is of no matter; RAISE of a RAISE by more is one RAISE by all of them");
+        HandShakes x = CHECK.with("a show raise(hole 0,lot 0,key 1);b show raise(g,key 1,lot 0,key 0,key 1);a sure g");
+        Tape.shelf(x, "raise(g,key 1,key 0)");
+        due("fill(): lot 0 is of its END", x.fill(0), 4);
+        HandShakes y = CHECK.with("a show raise(hole 0,key 0,key 1);b show raise(g,key 1,key 1,key 0,key 0);a sure g");
+        Tape.shelf(y, "raise(g,key 1,key 0)");
+        due("fill(): alike, and so CHEATED", y.fill(0), -1);
+        Tape.shelf(y, "raise(g,key 1,key 1)");
+        due("fill(): unlike", y.fill(0), 4);
+        due("filled(0)", y.filled(0), 1);
     }
 
     /** All that can be asked of a search, in a row. */

@@ -7,8 +7,12 @@ import java.nio.file.Files;
 import java.nio.file.Path;
 import java.util.ArrayList;
 import java.util.Arrays;
+import java.util.HashMap;
 import java.util.HashSet;
+import java.util.LinkedHashMap;
+import java.util.LinkedHashSet;
 import java.util.List;
+import java.util.Map;
 import java.util.Set;
 import java.util.TreeSet;
 import java.util.regex.Matcher;
@@ -38,6 +42,7 @@ public final class LanguageTest {
         String text = Files.readString(Path.of(SOURCE));
         source(bare(text));
         lengths(text);
+        depths(bare(text));
         System.out.println(wrong == 0 ? "the language is kept" : wrong + " rules are broken");
         if (wrong != 0) {
             System.exit(1);
@@ -125,7 +130,7 @@ public final class LanguageTest {
             must(imports.group(1).equals("java.util.Arrays"), "rule 4: import " + imports.group(1));
         }
         Matcher library = Pattern.compile("\\b(Arrays|System|Integer|Long|Math|String|List|ArrayList)\\.(\\w+)").matcher(text);
-        Set<String> allowed = Set.of("Arrays.fill", "Arrays.copyOf", "System.arraycopy", "Integer.bitCount",
+        Set<String> allowed = Set.of("Arrays.fill", "System.arraycopy", "Integer.bitCount",
                 "Integer.numberOfTrailingZeros", "Math.min", "Math.max");
         while (library.find()) {
             must(allowed.contains(library.group()) || library.group().equals("util.Arrays"), "rule 4: " + library.group());
@@ -149,6 +154,83 @@ public final class LanguageTest {
                     break;
                 }
             }
+        }
+    }
+
+    /** Each method, as class and name, with those that it calls by their names. */
+    private static Map<String, Set<String>> calls(String text) {
+        Map<String, Set<String>> bodies = new LinkedHashMap<>();
+        String type = "";
+        String method = "";
+        String end = "";
+        for (String line : text.split("\n")) {
+            Matcher opened = Pattern.compile("^(?: {4})?(?:public|private static) final class (\\w+) \\{$").matcher(line);
+            Matcher head = Pattern.compile("^( {4}| {8})(?:[a-zA-Z][\\w\\[\\] ]* )?(\\w+)\\([\\w\\[\\], ]*\\) \\{$").matcher(line);
+            if (opened.matches()) {
+                type = opened.group(1);
+            } else if (head.matches() && method.isEmpty()) {
+                method = type + "." + head.group(2);
+                end = head.group(1) + "}";
+                bodies.putIfAbsent(method, new LinkedHashSet<>());
+            } else if (line.equals(end)) {
+                method = "";
+            } else if (!method.isEmpty()) {
+                Matcher call = Pattern.compile("(?:(\\w+)(?:\\(\\))?\\.)?\\b(\\w+)\\(").matcher(line);
+                while (call.find()) {
+                    bodies.get(method).add((call.group(1) == null ? "this" : call.group(1)) + "." + call.group(2));
+                }
+            }
+        }
+        return bodies;
+    }
+
+    /** A name may be of several classes in several methods: a call by it is then one of each of them that has the method. */
+    private static Map<String, Set<String>> resolved(String text) {
+        Map<String, Set<String>> types = new HashMap<>();
+        Matcher named = Pattern.compile("\\b([A-Z]\\w+)(?:\\[\\])? (\\w+)(?=[,;)(]| =| :)").matcher(text);
+        while (named.find()) {
+            types.computeIfAbsent(named.group(2), name -> new HashSet<>()).add(named.group(1));
+        }
+        Map<String, Set<String>> written = calls(text);
+        Map<String, Set<String>> all = new LinkedHashMap<>();
+        written.forEach((from, to) -> {
+            Set<String> found = all.computeIfAbsent(from, name -> new LinkedHashSet<>());
+            for (String call : to) {
+                String receiver = call.substring(0, call.indexOf('.'));
+                String name = call.substring(call.indexOf('.') + 1);
+                String own = from.substring(0, from.indexOf('.'));
+                Set<String> owners = receiver.equals("this") ? Set.of(written.containsKey(own + "." + name) ? own : "HandShakes")
+                        : types.getOrDefault(receiver, Set.of(receiver));
+                owners.stream().map(owner -> owner + "." + name).filter(written::containsKey).forEach(found::add);
+            }
+        });
+        return all;
+    }
+
+    private static int deepest(Map<String, Set<String>> calls, List<String> open, List<String> longest) {
+        if (open.size() > longest.size()) {
+            longest.clear();
+            longest.addAll(open);
+        }
+        for (String to : calls.get(open.get(open.size() - 1))) {
+            if (!open.contains(to)) {
+                open.add(to);
+                deepest(calls, open, longest);
+                open.remove(open.size() - 1);
+            }
+        }
+        return longest.size();
+    }
+
+    /** Methods that call one another are counted once each: their levels are rule 8's. */
+    private static void depths(String text) {
+        Map<String, Set<String>> calls = resolved(text);
+        must(calls.size() > 100 && calls.get("Play.instance").contains("Terms.raise"), "calls can't be read: " + calls.size());
+        for (String one : FACE) {
+            List<String> longest = new ArrayList<>();
+            String from = "HandShakes." + one.substring(one.indexOf(' ') + 1, one.indexOf('('));
+            int depth = deepest(calls, new ArrayList<>(List.of(from)), longest);
+            must(depth <= 8, "rule 11: " + depth + " calls deep: " + longest);
         }
     }
 }

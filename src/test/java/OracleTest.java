@@ -369,7 +369,7 @@ public final class OracleTest {
         String text = likely();
         String[][] changes = {{"sure raise(x 0,lot 0)", "sure hole 0"}, {"sure lot 0", "sure hole 1"}, {"sure x 1", "sure hole 2"},
             {"show x 0", "show hole 1"}, {"send raise(g,lot 0)", "send hole 2"}, {"sum(pair(x 0,raise(g,lot 0)))", "hole 1"},
-            {"send seal(lot 0,key 0)", "send seal(hole 0,key 0)"}};
+            {"send seal(lot 0,key 0)", "send seal(hole 0,key 0)"}, {"send raise(g", "send raise(hole 1"}, {"raise(x 0", "raise(hole 2"}};
         for (int i = 0; i < 4; i++) {
             String[] change = changes[pick(changes.length)];
             text = pick(2) == 0 ? text.replace(change[0], change[1]) : text.replaceFirst(java.util.regex.Pattern.quote(change[0]), change[1]);
