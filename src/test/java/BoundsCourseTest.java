@@ -786,7 +786,7 @@ public final class BoundsCourseTest {
         CHECK.says("STATES are gone through, each once, by how many TAKES lead there at least");
         HandShakes x = CHECK.with("b send pair(pair(lot0,lot1),pair(lot2,sum(g)));a take pair(x0,x1);a send "
                 + "raise(seal(x0,x1),lot1,lot1,lot1,lot1,lot1,lot1,lot0,lot0,lot0,lot0,lot0,lot0);a take g;a show pair(x0,x1);"
-                + "b show pair(g,g);a sure g");
+                + "b show pair(g,g);a sure sum(sum(pair(x0,x1)))");
         proves(x, 0, 1, 0, 1);
         // Six CANDIDATES and b's eight: all can be MADE. What a sends is of SIZE 30 at most.
         due("found(0)", x.found(0), 1 + 14 * 14 + 14 * 14);
@@ -794,6 +794,7 @@ public final class BoundsCourseTest {
         due("course(0, 1)", x.course(0, 1), 13);
         due("course(0, 2)", x.course(0, 2), 13);
         due("last() LINES", x.last(0, 0, 0), 5);
+        due("last() SIZE", x.last(0, 0, 3), 5);
         CHECK.says("an END at \"take\" takes any TERM that its LINE's can be and the THIRD can MAKE");
         // Each CANDIDATE with each other one makes TERMS of its own; those with what was SEALED alone can be MADE.
         HandShakes y = CHECK.with("b send pair(pair(pair(lot0,lot1),pair(lot2,key1)),pair(pair(sum(lot0),sum(lot1)),"
@@ -808,15 +809,15 @@ public final class BoundsCourseTest {
     /** Each STATE took two TERMS that no other one did: five hundred of them in all. */
     private static void manyTaken() {
         CHECK.says("STATES are gone through, each once");
-        String[] around = {"sum(", "seal(key1,", "pair(lot1,"};
+        String[] around = {"sum(", "seal(g,", "pair(g,"};
         String[] texts = new String[around.length];
         for (int i = 0; i < around.length; i++) {
             String first = around[i] + "x0)";
             String second = around[i] + "x1)";
             texts[i] = "b send pair(g,lot2);a take pair(x0,x1);a send seal(pair(sum(pair(x0,x1)),seal(x0,x1)),key0);"
                     + "b take seal(pair(x0,x1),key0);b send seal(pair(" + first + "," + second + "),key1);a take seal(pair(x2,x3),key1);"
-                    + "a send seal(pair(sum(x2),x3),sum(key0));b take seal(pair(x2,x3),sum(key0));"
-                    + "a show pair(pair(sum(x2),x3),pair(x0,x1));b show pair(pair(x2,x3),pair(lot2,lot2));a sure g";
+                    + "a send seal(pair(sum(x2),sum(x3)),sum(key0));b take seal(pair(x2,x3),sum(key0));"
+                    + "a show pair(pair(sum(x2),sum(x3)),pair(x0,x1));b show pair(pair(x2,x3),pair(lot2,lot2));b sure pair(x2,x3)";
         }
         HandShakes x = CHECK.with(texts);
         for (int k = 0; k < 6; k++) {
@@ -826,6 +827,8 @@ public final class BoundsCourseTest {
             due("found(1)", x.found(1), 4);
             due("course(0, 1)", x.course(0, 1), 8);
             due("course(0, 2)", x.course(0, 2), 8);
+            due("last() SURE of b", x.last(0, 1, 2), 1);
+            due("last() SIZE of b", x.last(0, 1, 3), k % 3 == 0 ? 12 : 14);
         }
     }
 
