@@ -33,11 +33,9 @@ public final class BudgetTest {
     }
 
     public static void main(String[] args) {
-        made();
+        life(new Random(1)); // what the machine makes for itself, as it loads the classes, is not counted
         long from = made();
-        HandShakes x = new HandShakes(); // the classes' own loading is not counted
-        from = made();
-        x = new HandShakes();
+        HandShakes x = new HandShakes();
         most("a new object", made() - from, 20_000);
         manyCalls(x);
         from = made();
@@ -228,7 +226,6 @@ public final class BudgetTest {
 
     private static void anyLife() {
         Random random = new Random(11);
-        life(random); // what the machine makes for itself by the way is not counted
         long dearest = 0;
         for (int i = 0; i < 30; i++) {
             dearest = Math.max(dearest, life(random));
