@@ -1048,7 +1048,7 @@ public final class HandShakes {
     }
 
     /**
-     * All TERMS of a search, each once, so that the same TERM has the same number.
+     * The TERMS of a STATE that is gone through, each once, so that the same TERM has the same number.
      * A RAISE by several ATOMS is a chain, the greatest ATOM outermost: so it has one shape.
      */
     private static final class Terms {
@@ -1057,7 +1057,7 @@ public final class HandShakes {
          * TERMS that a STATE can have at once, with no more parts each than its SIZE: what each END took for each x, the
          * LINES of both ROOMS, and one that is TAKEN; and of one that turns out too large what is ahead of each bracket
          * that is open, in a LINE and in what fills a hole of it, and the last two. The THIRD's two RAISES come to it.
-         * What else is asked needs less: make() has 21 TERMS of a LINE's words, a RUN one ROOM.
+         * What else is asked needs less: make() has 21 TERMS of a LINE's words, a RUN one ROOM. So there is always place.
          */
         private static final int MOST_TERMS = ATOMS + 2
                 + (ENDS * XS + 2 * MOST_LINES + 1 + 2 * MOST_BRACKETS + 2) * MOST_SIZE;
@@ -1134,7 +1134,7 @@ public final class HandShakes {
                 by[word < ATOM_LOT ? word : word + LOTS * end] = bys >> BY_BITS * word & BY_MASK;
             }
             int raised = term;
-            for (int k = 0; k <= MOST_SIZE && kind[raised] == RAISE; k++) {
+            for (int k = 0; k <= MOST_SIZE && kind[raised] == RAISE && right[raised] < ATOM_G; k++) {
                 by[right[raised]]++;
                 raised = left[raised];
             }
